@@ -306,7 +306,7 @@ public final class NilPaid {
         if (!good) {
             return reader.told();
         }
-        for (int i = 0; i < orders.many; i++) {
+        for (int i = 0; i < orders.many && i < Orders.MOST; i++) {
             if (followOrder(h, i) < 0) {
                 return i;
             }

@@ -110,6 +110,33 @@ public final class ClosedTest {
         NilPaid y = asking(99, 1);
         y.close();
         t.row("given", Due.all(y, 9), 10, 20, 29, 0, 40, 0, 0, 0, 0, 0);
+        // who asks 1 counts with its HELD: 30 by 90, 10 of 100
+        NilPaid one = new NilPaid();
+        one.terms(1, 1, 10, 20);
+        one.holder(0, 90, 100000);
+        one.holder(1, 10, 100000);
+        one.rule(1);
+        one.open();
+        one.take(0, 70);
+        one.excess(0, 1);
+        one.excess(1, 100);
+        one.close();
+        t.row("one of 30", Due.all(one, 9), 1, 29, 0, 0, 0, 0, 0, 0, 0, 0);
+        NilPaid two = new NilPaid();
+        two.terms(1, 1, 10, 20);
+        two.holder(0, 90, 100000);
+        two.holder(1, 10, 100000);
+        two.holder(2, 10, 100000);
+        two.rule(1);
+        two.open();
+        two.take(0, 90);
+        two.take(1, 9);
+        two.excess(0, 1);
+        two.excess(1, 10);
+        two.excess(2, 10);
+        // 11 by 90, 10, 10 of 110: 9 but 1, 1, 1; 8 are left over
+        two.close();
+        t.row("11", Due.all(two, 9), 1, 5, 5, 0, 0, 0, 0, 0, 0, 0);
         // only those without HELD ask
         NilPaid z = new NilPaid();
         z.terms(1, 1, 10, 20);
@@ -135,6 +162,23 @@ public final class ClosedTest {
         NilPaid z = asking(99, 2);
         z.close();
         t.row("99", Due.all(z, 9), 10, 20, 30, 0, 39, 0, 0, 0, 0, 0);
+        NilPaid ten = new NilPaid();
+        ten.terms(1, 1, 10, 20);
+        for (int h = 0; h < 10; h++) {
+            ten.holder(h, 1000, 1000000);
+        }
+        ten.rule(2);
+        ten.open();
+        for (int h = 0; h < 10; h++) {
+            ten.excess(h, 1000 - 70 * h);
+            ten.take(h, h == 0 ? 0 : h < 7 ? 428 : 300);
+        }
+        // LEFT 6532 is less than 6850 by 318: 1000, 930 and 860 are cut
+        t.due("the third", ten.ifClosed(2, 12), 824);
+        ten.take(1, 120);
+        // by 10: only the one that asked most is cut
+        ten.close();
+        t.row("ten", Due.all(ten, 9), 990, 930, 860, 790, 720, 650, 580, 510, 440, 370);
         NilPaid w = new NilPaid();
         w.terms(1, 1, 10, 20);
         w.holder(0, 2, 0);
@@ -256,6 +300,18 @@ public final class ClosedTest {
         NilPaid k = doneBy("100x500");
         t.due("at K", k.count(9), 100);
         t.due("premium 0", k.count(11), 0);
+        NilPaid next = doneBy("121x50;120x100;122x30");
+        t.due("bids just above the strike", next.count(9), 120);
+        t.row("has", has(next, 3), 50, 93, 30);
+        NilPaid penny = new NilPaid();
+        penny.terms(1, 1, 1, 20);
+        penny.holder(0, 10, 0);
+        penny.open();
+        penny.close();
+        Due.book(penny, "1x4;2x3;1x9");
+        t.due("strike 1: sold", penny.done(), 10);
+        t.due("strike 1", penny.count(9), 1);
+        t.row("has", has(penny, 3), 4, 3, 3);
         NilPaid full = Due.opened();
         full.excess(2, 173);
         full.close();
@@ -321,6 +377,15 @@ public final class ClosedTest {
         t.due("fees", x.count(14), 958);
         // premium 600: 346, 173, 76 are handed out, 5 left
         t.due("raised", x.count(15), 17300 - 958 + 5);
+        x.anew();
+        for (int j = 0; j < 4; j++) {
+            t.due("anew: size", x.taken(j, 0), 0);
+            t.due("anew: fee", x.taken(j, 1), 0);
+            t.due("anew: takes", x.taken(j, 2), 0);
+        }
+        x.terms(1, 1, 10000, 10000);
+        x.layer(0, 100000, 1000);
+        t.due("the greatest fee", x.taken(0, 3), 100000000);
         NilPaid y = Due.opened();
         y.sell(0, NilPaid.NONE, 10, 1);
         y.take(0, 20);

@@ -5,6 +5,7 @@ public final class KeptTest {
     public static void main(String[] args) {
         eight();
         everyStage();
+        doneIsKept();
         tapeIsNotKept();
         t.end();
     }
@@ -73,6 +74,33 @@ public final class KeptTest {
         x.keep();
         t.row("BEFORE", Due.everything(x), before);
         t.due("can be opened again", x.open(), 173);
+    }
+
+    private static void doneIsKept() {
+        NilPaid y = Due.small();
+        y.terms(1, 1, 50, 150);
+        y.layer(0, 5, 6);
+        y.keep();
+        y.terms(7, 3, 22, 33);
+        y.layer(0, 7, 8);
+        y.undo();
+        t.due("terms", y.price(0, 0), 100);
+        t.due("layer 0", y.taken(0, 0), 5);
+        t.due("its fee", y.taken(0, 1), 6);
+        NilPaid z = Due.closed();
+        Due.book(z, "130x40;120x20");
+        z.layer(0, 20, 100);
+        z.done();
+        z.keep();
+        long[] done = Due.everything(z);
+        z.give(0, 1, 5, 5);
+        z.undo();
+        z.keep();
+        t.row("DONE", Due.everything(z), done);
+        z.give(0, 1, 5, 0);
+        z.undo();
+        z.keep();
+        t.row("DONE", Due.everything(z), done);
     }
 
     private static void tapeIsNotKept() {

@@ -261,7 +261,21 @@ public final class LookedAtTest {
         t.due("opens again", x.open(), 50001);
         t.due("none stands", x.traded(0), 0);
         anewCapped();
+        anewCounts();
         anewEmptied();
+    }
+
+    private static void anewCounts() {
+        NilPaid x = Due.opened();
+        x.sell(0, NilPaid.NONE, 10, 1);
+        x.close();
+        x.done();
+        x.anew();
+        for (int what = 2; what < 17; what++) {
+            t.due("count(" + what + ")", x.count(what), 0);
+        }
+        x.open();
+        t.due("the market has none again", x.count(4), 0);
     }
 
     private static void anewCapped() {
@@ -327,6 +341,8 @@ public final class LookedAtTest {
         t.due("rights", Due.planFor(x, 0, text, 1), 94);
         t.due("cash", Due.planFor(x, 0, text, 2), 10188);
         t.row("nothing is done", Due.everything(x), ahead);
+        t.due("the first is refused: rights", Due.planFor(x, 0, "take 101", 1), 100);
+        t.due("the first is refused: cash", Due.planFor(x, 0, "take 101", 2), 10000);
         for (int what = 0; what < 3; what++) {
             t.due("a fault", Due.planFor(x, 0, "take 3;take", what), -1011);
             t.due("the tape is empty", x.count(18), 0);

@@ -64,6 +64,10 @@ public final class NilPaidStageTest {
         t.due("b has no cash", x.sell(3, 1, 10, 1), -3);
         t.due("the market needs none", x.sell(3, NilPaid.NONE, 10, 1), -4);
         t.due("a would be above", x.sell(3, 2, 10, 1), -4);
+        t.due("at 0 it would not", x.sell(3, 2, 1, 0), 9);
+        x.sell(2, 3, 1, 0);
+        x.sell(2, 3, 1, 5);
+        t.due("just 1000000000", x.sell(3, 2, 1, 5), 10);
         x.take(0, 95);
         t.due("to a holder", x.sell(0, 2, 3, 70), 97);
         t.due("take stays", x.of(0, 3), 95);
@@ -126,11 +130,16 @@ public final class NilPaidStageTest {
         t.due("both go", x.tail(4, 5), 2);
         t.due("just 1000000000", x.of(4, 1), 1000000000);
         t.due("nothing left to take", x.of(4, 3), 0);
+        x.sell(1, 5, 2, 0);
+        t.due("q 1", x.tail(5, 1), 2);
+        x.sell(0, 1, 2, 0);
+        x.sell(1, 0, 2, 0);
         // 100 rights at 100: 50 of them pay for the other 50
         x.excess(0, 3);
         t.due("halves", x.tail(0, 100), 50);
         t.row("after the tail", Due.holder(x, 0), 400, 15000, 50, 50, 3, 400, 0, 0, 0, 0, 0);
-        t.due("the market's", x.count(4), 52);
+        t.due("the market's", x.count(4), 54);
+        x.sell(0, 1, 2, 0);
         // 50 rights at 99: 50 * 100 / 199 is 25.1
         t.due("one more than half", x.tail(1, 99), 26);
         // 22 rights at 10000: 22 * 100 / 10100 is 0.2
@@ -170,13 +179,24 @@ public final class NilPaidStageTest {
         t.due("TAKE", x.of(0, 3), 1);
         t.due("the tape is empty", x.count(18), 0);
         refusedOrders();
+        Due.feed(x, most(81));
+        t.due("n 81 of 100", x.plan(0, 81), NilPaid.NONE);
+        t.due("n 80 of 100", x.plan(0, 80), 1);
+        Due.feed(x, "take 17");
+        t.due("no more than n bytes are read", x.plan(0, 6), 1);
+        t.due("TAKE", x.of(0, 3), 1);
         String most = "lapse;lapse;lapse;lapse;lapse;lapse;lapse;lapse;lapse;lapse;lapse;lapse;tail 100";
         t.due("80 bytes", most.length(), 80);
         t.due("13 orders", Due.plan(x, 0, most), 13);
         x.close();
         Due.feed(x, "take 5");
         t.due("CLOSED", x.plan(0, 6), -9);
+        t.due("the tape stays", x.count(18), 20);
         t.due("CLOSED, no such", x.plan(0, 21), NilPaid.NONE);
+    }
+
+    private static String most(int bytes) {
+        return "take 1" + " ".repeat(bytes - 6);
     }
 
     private static void refusedOrders() {

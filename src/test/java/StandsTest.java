@@ -7,6 +7,7 @@ public final class StandsTest {
         promise16Meets();
         promise16Limits();
         promise16Twelve();
+        promise16TwelveAtOnce();
         promise17And18();
         promise19();
         promise20();
@@ -126,6 +127,27 @@ public final class StandsTest {
         t.due("the eldest is gone", x.standing(0, 3), 101);
     }
 
+    private static void promise16TwelveAtOnce() {
+        t.about("16 stand, meets twelve");
+        NilPaid x = ten(100000);
+        for (int i = 0; i < 12; i++) {
+            x.stand(i % 9, true, 1, 100 + i);
+        }
+        t.due("costOf(9, 12)", x.costOf(9, 12), 1266);
+        t.due("costOf(9, 13)", x.costOf(9, 13), -2);
+        t.due("buyable(9)", x.buyable(9), 12);
+        t.due("depth", x.depth(true, 111), 12);
+        t.due("all", x.stand(9, false, 13, 111), 12);
+        t.due("cash", x.of(9, 1), 98734);
+        t.row("it stands alone", standOf(x, 0), 9, 0, 1, 111);
+        NilPaid y = ten(100000);
+        y.stand(3, false, 5, 1);
+        t.due("the greatest at which one would buy is 1", y.traded(5), 1);
+        y.stand(4, false, 5, 1);
+        y.stand(5, true, 6, 1);
+        t.row("of like buyers the eldest first", Due.all(y, 2), 100, 100, 100, 105, 101, 94, 100, 100, 100, 100);
+    }
+
     private static void promise17And18() {
         t.about("17 standing, 18 withdraw");
         NilPaid x = ten(100000);
@@ -187,6 +209,11 @@ public final class StandsTest {
         x.anew();
         t.due("anew", x.traded(0), 0);
         t.due("anew", x.traded(2), 0);
+        t.due("anew", x.traded(1), 0);
+        x.open();
+        x.stand(1, true, 2, 5);
+        x.stand(2, false, 2, 5);
+        t.due("anew: money", x.traded(1), 10);
     }
 
     private static void promise20() {

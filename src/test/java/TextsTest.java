@@ -54,6 +54,8 @@ public final class TextsTest {
             {"buy 5 from", 10}, {"buy 5 from all", 11}, {"buy 5 from 2", 12}, {"buy 5 from 2 from 3", 13},
             {"buy 5 from 2 at", 15}, {"buy 5 from 2 at ;", 16}, {"buy 5 fro 2 at 3", 6}, {"bu 5", 0},
             {"take 5;tak 6", 7}, {"take 5;  tak 6", 9}, {"take 5\ttake 6", 6}, {"take\t5", 4}, {"take 5;\u00e9", 7},
+            {"sell", 4}, {"sell ", 5}, {"sell;", 4}, {"buy", 3}, {"buy ", 4}, {"buy;", 3}, {"takez 5", 0}, {"takea 5", 0},
+            {"take 5 z", 7}, {"sell 5 at ", 10}, {"buy 5 from ", 11}, {"buy 5 from 2 at ", 16}, {"tail ", 5},
             {"\u00e9", 0}, {"take 5`", 6}, {"take 5{", 6}, {"take 5/", 6}, {"take 5:", 6}, {"take\u00005", 4},
             {"sell 999999 at 5; take 5 x", 25}, {"5take 5", 0}, {"all", 0}, {"at 5", 0}, {"take lapse", 5},
         };

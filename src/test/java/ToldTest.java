@@ -122,7 +122,8 @@ public final class ToldTest {
         t.about("6 layer");
         NilPaid x = Due.opened();
         t.due("layer(3, 100000, 1000)", x.layer(3, 100000, 1000), 0);
-        t.due("layer(3, 7, 0)", x.layer(3, 7, 0), 100000);
+        t.due("layer(3, 0, 0)", x.layer(3, 0, 0), 100000);
+        t.due("layer(3, 7, 0)", x.layer(3, 7, 0), 0);
         int[][] none = {{-1, 1, 1}, {4, 1, 1}, {0, -1, 1}, {0, 100001, 1}, {0, 1, -1}, {0, 1, 1001}};
         for (int[] a : none) {
             t.due("no such " + java.util.Arrays.toString(a), x.layer(a[0], a[1], a[2]), NilPaid.NONE);
@@ -155,7 +156,8 @@ public final class ToldTest {
         t.due("drawn", x.drawn(seed, 777), sum);
         t.row("shares", Due.all(x, 0), shares);
         t.row("cash", Due.all(x, 1), cash);
-        // X of 1 is 39022, then 13995 + ..: by hand 25173 * 1 + 13849 = 39022, through 4 is 9755
+        manySeeds();
+        // by hand: 25173 * 1 + 13849 = 39022, through 4 is 9755
         x.drawn(1, 16000);
         t.due("first draw of seed 1", x.of(0, 0), 9755);
         x.drawn(-65535, 16000);
@@ -167,6 +169,21 @@ public final class ToldTest {
         x.open();
         t.due("not BEFORE", x.drawn(5, 5), -9);
         t.due("not BEFORE, no such one", x.drawn(5, 0), NilPaid.NONE);
+    }
+
+    /** Many, so that some draws are above 16000. */
+    private static void manySeeds() {
+        for (int seed = 0; seed < 300; seed += 7) {
+            NilPaid x = new NilPaid();
+            x.drawn(seed, 16000);
+            long state = seed;
+            for (int h = 0; h < 10; h++) {
+                state = (25173 * state + 13849) % 65536;
+                t.due("shares", x.of(h, 0), state / 4 % 16000);
+                state = (25173 * state + 13849) % 65536;
+                t.due("cash", x.of(h, 1), state / 4 % 16000 * 1000);
+            }
+        }
     }
 
     private static void promise8() {
@@ -222,6 +239,9 @@ public final class ToldTest {
         x.split(10);
         t.due("P 1, K 1 at least", x.price(0, 0), 1);
         t.due("P is not 0", x.wealth(0), 100);
+        x.terms(1, 1, 9, 9);
+        x.split(10);
+        t.due("P 9 becomes 1", x.wealth(0), 1000);
         x.open();
         t.due("not BEFORE", x.split(2), -9);
         t.due("not BEFORE, no such x", x.split(11), NilPaid.NONE);

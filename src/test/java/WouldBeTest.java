@@ -67,6 +67,10 @@ public final class WouldBeTest {
         y.open();
         // 33 of 50 left: 33 * 5000 / 17 is 9705.9; 34 of 50: 10625
         t.due("just below 10000", y.tailPrice(1, 33), 9706);
+        y.sell(1, 0, 2, 0);
+        // 32 of 48: just 10000
+        t.due("just 10000", y.tailPrice(1, 32), 10000);
+        y.sell(0, 1, 2, 0);
         t.due("above 10000", y.tailPrice(1, 34), -2);
         y.close();
         t.due("CLOSED", y.tailPrice(1, 1), -9);
