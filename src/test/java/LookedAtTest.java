@@ -292,6 +292,12 @@ public final class LookedAtTest {
         t.due("P", x.anew(), 477);
         t.due("cash at most", x.of(0, 1), 1000000000);
         t.due("shares at most", x.of(0, 0), 100000);
+        NilPaid penny = Due.small();
+        penny.terms(1, 1, 1, 1);
+        penny.open();
+        penny.close();
+        penny.done();
+        t.due("P 1", penny.anew(), 1);
         NilPaid y = Due.small();
         y.terms(1, 1, 300, 101);
         y.open();

@@ -93,6 +93,13 @@ public final class StandsTest {
         t.due("no more than the seller has; the next is met too", x.stand(0, false, 20, 10), 8);
         t.row("its stand stays", standOf(x, 0), 1, 1, 97, 10);
         t.row("what is left of the buyer's", standOf(x, 1), 0, 0, 12, 10);
+        NilPaid none = ten(1000);
+        none.stand(1, true, 5, 10);
+        none.sell(1, NilPaid.NONE, 100, 0);
+        t.due("the seller has none", none.stand(0, false, 5, 10), 0);
+        t.due("no latest price", none.traded(2), 0);
+        t.row("it stands", standOf(none, 0), 1, 1, 5, 10);
+        t.row("so does the other", standOf(none, 1), 0, 0, 5, 10);
         NilPaid y = ten(1000);
         y.stand(1, false, 100, 10);
         y.sell(2, 1, 1, 955);
@@ -279,6 +286,18 @@ public final class StandsTest {
         t.due("no holder", x.needs(10, 1), NilPaid.NONE);
         x.close();
         t.due("CLOSED", x.needs(0, 1), -9);
+        NilPaid y = new NilPaid();
+        y.holder(0, 800, 0);
+        y.open();
+        // 1000 in all
+        t.due("just 801", y.needs(0, 801000), 1);
+        t.due("more than 801", y.needs(0, 801001), 2);
+        NilPaid z = new NilPaid();
+        z.terms(1, 2, 1, 1);
+        z.holder(0, 2, 0);
+        z.open();
+        t.due("two of three", z.needs(0, 666666), 0);
+        t.due("a millionth more", z.needs(0, 666667), 1);
     }
 
     private static void promise23() {

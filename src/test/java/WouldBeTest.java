@@ -140,6 +140,11 @@ public final class WouldBeTest {
         t.due("rump 1000001", x.soldFor(1000001, 0), NilPaid.NONE);
         t.due("sort 2", x.soldFor(1, 2), NilPaid.NONE);
         t.due("sort -1", x.soldFor(1, -1), NilPaid.NONE);
+        x.terms(1, 4, 100, 200);
+        Due.book(x, "105x2");
+        t.due("a shorter book in its place", x.strikeFor(2), 105);
+        t.due("sold", x.soldFor(100, 0), 2);
+        t.due("sold", x.strikeFor(5), 105);
         NilPaid y = Due.closed();
         Due.book(y, "150x10");
         y.done();
