@@ -1705,7 +1705,8 @@ public final class NilPaid {
         boolean readPlan(int n, Orders into) {
             begin(n);
             into.many = 0;
-            for (int i = 0; i < Orders.MOST; i++) {
+            // a turn more than orders can be: it finds what is wrong behind the last ;
+            for (int i = 0; i <= Orders.MOST; i++) {
                 if (!readOrder(into)) {
                     return false;
                 }

@@ -8,6 +8,7 @@ public final class TextsTest {
         books();
         bookFaults();
         twentyOne();
+        behindThirteen();
         t.end();
     }
 
@@ -133,5 +134,15 @@ public final class TextsTest {
         t.due("one ahead is wrong", Due.book(x, "0x1;" + text), -2000);
         t.due("the twentieth is wrong", Due.book(x, text.substring(0, n - 1) + "0;1x1"), -2000 - n + 1);
         t.due("the book stays", x.count(16), 20);
+    }
+
+    /** 13 orders fill 77 bytes: behind their last ; no other fits, and the fault is where it stands. */
+    private static void behindThirteen() {
+        t.about("15 plan, behind thirteen orders");
+        String full = "lapse;".repeat(13);
+        Object[][] rows = {{"", 78}, {" ", 79}, {"  ", 80}, {" x", 79}, {"x ", 78}, {"la", 78}, {" 5", 79}, {"5", 78}, {";", 78}};
+        for (Object[] row : rows) {
+            t.due("\"" + row[0] + "\"", Due.plan(Due.opened(), 0, full + row[0]), -1000 - (Integer) row[1]);
+        }
     }
 }
