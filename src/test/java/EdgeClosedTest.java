@@ -24,6 +24,15 @@ public final class EdgeClosedTest {
         take 2 10
         """;
 
+    /** The same with LEFT of HOLDER 9; 0, 1, 2 may ask for 100 each. */
+    private static final String NINE_LEFT = """
+        terms 1 1 10 20
+        holder 9 10 0
+        holder 0 0 1000
+        holder 1 0 1000
+        holder 2 0 1000
+        """;
+
     public static void main(String[] args) {
         promise25TakenUp();
         promise25Asked();
@@ -313,6 +322,37 @@ public final class EdgeClosedTest {
             of 5 9 = 1
             of 9 9 = 0
             """);
+        e.edge("25: 0 BY ASKED: through all ASKED, not one more", TEN_LEFT, """
+            open
+            excess 1 1
+            excess 2 1
+            excess 3 18
+            # 10 / 20, 10 / 20, 180 / 20: one is left over
+            close = 0
+            of 1 9 = 1
+            of 2 9 = 0
+            of 3 9 = 9
+            """);
+        e.edge("25: 0 BY ASKED: HOLDER 0 asks", NINE_LEFT, """
+            open
+            excess 0 12
+            excess 1 8
+            close = 0
+            of 0 9 = 6
+            of 1 9 = 4
+            """);
+        e.edge("25: 0 BY ASKED: unlike ones beyond an int", """
+            terms 1 1 1 10
+            holder 0 99999 0
+            holder 1 0 1000000
+            holder 2 0 1000000
+            open
+            excess 1 100000
+            excess 2 50000
+            close = 0
+            of 1 9 = 66666
+            of 2 9 = 33333
+            """);
         e.edge("25: 0 BY ASKED: LEFT times ASKED beyond an int", """
             terms 1 1 1 10
             holder 0 99999 0
@@ -416,6 +456,66 @@ public final class EdgeClosedTest {
             of 2 9 = 3
             of 3 9 = 3
             """);
+        e.edge("25: 1 BY HELD: through HELD of all that ASKED, not one more", """
+            terms 1 1 10 20
+            holder 0 10 0
+            holder 1 1 1000
+            holder 2 1 1000
+            holder 3 18 1000
+            rule 1
+            open
+            take 1 1
+            take 2 1
+            take 3 18
+            excess 1 50
+            excess 2 50
+            excess 3 50
+            # 10 / 20, 10 / 20, 180 / 20: one is left over
+            close = 0
+            of 1 9 = 1
+            of 2 9 = 0
+            of 3 9 = 9
+            """);
+        e.edge("25: 1 BY HELD: HOLDER 0 asks", """
+            terms 1 1 10 20
+            holder 0 30 1000
+            holder 1 10 1000
+            holder 9 20 0
+            rule 1
+            open
+            take 0 30
+            take 1 10
+            excess 0 70
+            excess 1 70
+            close = 0
+            of 0 9 = 15
+            of 1 9 = 5
+            """);
+        e.edge("25: 1 BY HELD: what is left over, round by round, till one has what it ASKED", TWENTY_LEFT, """
+            excess 1 1
+            excess 2 8
+            excess 3 70
+            # 15, but 1; 5; 0; 14 are left over: three rounds, then 3 alone
+            close = 0
+            of 1 9 = 1
+            of 2 9 = 8
+            of 3 9 = 11
+            """);
+        e.edge("25: 1 BY HELD: LEFT times HELD beyond an int", """
+            terms 1 1 1 10
+            holder 0 99999 0
+            holder 1 100000 1000000
+            holder 2 50000 1000000
+            rule 1
+            open
+            take 1 100000
+            take 2 50000
+            excess 1 100000
+            excess 2 100000
+            close = 0
+            of 1 9 = 66666
+            of 2 9 = 33333
+            """);
         e.edge("25: 1 BY HELD: HELD when OPENED, not SHARES when CLOSED", TWENTY_LEFT, """
             sell 2 1 10 0
             take 1 40
@@ -466,6 +566,39 @@ public final class EdgeClosedTest {
             of 8 9 = 1
             of 9 9 = 0
             """);
+        e.edge("25: 2 LEVEL: HOLDER 0 has what it ASKED first", NINE_LEFT, """
+            rule 2
+            open
+            excess 0 2
+            excess 1 9
+            excess 2 9
+            close = 0
+            of 0 9 = 2
+            of 1 9 = 4
+            of 2 9 = 4
+            """);
+        e.edge("25: 2 LEVEL: ten ask for as much as they can, all but one of LEFT", """
+            terms 11 2 1 10
+            rule 2
+            """, tenAsk(10000, 100000), """
+            take 9 1
+            # LEFT 549999 of 550000
+            close = 0
+            of 0 9 = 10000
+            of 7 9 = 80000
+            of 8 9 = 90000
+            of 9 9 = 99999
+            """);
+        e.edge("25: 2 LEVEL: ten ask, each for one more than the one ahead", """
+            terms 6 1 10 20
+            rule 2
+            """, tenAsk(1, 9), """
+            # LEFT 54 of 55
+            close = 0
+            of 0 9 = 1
+            of 8 9 = 9
+            of 9 9 = 9
+            """);
         e.edge("25: 2 LEVEL: all but one of what was ASKED", TEN_LEFT, """
             rule 2
             open
@@ -477,6 +610,19 @@ public final class EdgeClosedTest {
             of 2 9 = 1
             of 3 9 = 8
             """);
+    }
+
+    /** OPENED: HOLDER 9 alone has SHARES; HOLDER h asks for (h and 1) times so many, and has CASH enough. */
+    private static String tenAsk(int times, int shares) {
+        StringBuilder text = new StringBuilder();
+        for (int h = 0; h < 10; h++) {
+            text.append("holder ").append(h).append(' ').append(h == 9 ? shares : 0).append(" 1000000\n");
+        }
+        text.append("open\n");
+        for (int h = 0; h < 10; h++) {
+            text.append("excess ").append(h).append(' ').append(times * (h + 1)).append('\n');
+        }
+        return text.toString();
     }
 
     private static void promise25Rump() {
@@ -610,6 +756,18 @@ public final class EdgeClosedTest {
             done = 10
             count 9 = 1
             count 11 = 0
+            """);
+        e.edge("27: at the least price, K 1: others above it", """
+            terms 1 1 1 20
+            holder 0 10 0
+            book "1x4;2x3;1x9"
+            open
+            close = 10
+            done = 10
+            count 9 = 1
+            bid 0 2 = 4
+            bid 1 2 = 3
+            bid 2 2 = 3
             """);
         e.edge("27: at the greatest price, K 10000", """
             terms 1 1 10000 20

@@ -767,6 +767,14 @@ public final class EdgeStandsTest {
             needs 0 801001 = 2
             needs 0 999999 = 200
             """);
+        e.edge("22: so much or more: by a millionth of a SHARE", """
+            terms 1 2 1 1
+            holder 0 2 0
+            open
+            # two of three are 666666.6 millionths
+            needs 0 666666 = 0
+            needs 0 666667 = 1
+            """);
         e.edge("22: -2: it has not so many", Edge.OPENED, """
             # 500 of 865 are 578034.6 millionths
             needs 0 578034 = 100

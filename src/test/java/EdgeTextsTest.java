@@ -83,6 +83,8 @@ public final class EdgeTextsTest {
         plan("words and numbers may stand side by side", "sell1at2", 1);
         plan("words and numbers may stand side by side: three", "buy1from2at3;take5", 2);
         plan("two words may not", "takelapse", -1000);
+        plan("small letters: a, the first of them", "takea 5", -1000);
+        plan("small letters: z, the last of them", "takez 5", -1000);
         plan("small letters: a capital", "Take 5", -1000);
         plan("small letters: a capital within", "taKe 5", -1000);
         plan("small letters: a capital behind", "takeE5", -1004);
@@ -198,6 +200,13 @@ public final class EdgeTextsTest {
             bid 0 1 = 3
             bid 1 0 = -1
             count 16 = 1
+            """);
+        e.edge("26: in place of the one ahead: its BIDS count no more", """
+            book "150x5;160x6;170x7"
+            soldFor 18 0 = 18
+            book "150x5"
+            soldFor 18 0 = 5
+            strikeFor 1 = 150
             """);
         e.edge("26: a FAULT (the BOOK stays)", """
             book "5x6;7x8" = 2

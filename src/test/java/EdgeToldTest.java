@@ -604,6 +604,12 @@ public final class EdgeToldTest {
             split 10 = 100020
             of 9 0 = 100000
             """);
+        e.edge("9: -2: one would have more than 100000: HOLDER 0", """
+            holder 0 50001 0
+            split 2 = -2
+            holder 0 50000 0
+            split 2 = 100000
+            """);
         e.edge("9: -2 is of each HOLDER alone, not of ALL", tenHolders(50000, 0), """
             split 2 = 1000000
             split 2 = -2

@@ -524,7 +524,10 @@ public final class EdgeWouldBeTest {
             """);
         e.edge("47: the least K (1 to 10000): 1", """
             terms 1 1 50 201
-            # K 1: T is 101
+            # by P alone T is 100.5, K 1: T is 101
+            priceFor 10049 = 1
+            priceFor 10050 = 1
+            priceFor 10051 = 1
             priceFor 10100 = 1
             priceFor 10101 = 2
             priceFor 10150 = 2
@@ -776,6 +779,86 @@ public final class EdgeWouldBeTest {
             traded 6 = 0
             of 0 2 = 0
             open = 173
+            """);
+        e.edge("51: NONE: there is none: anew leaves none", Edge.CLOSED, """
+            keep = 1
+            done
+            anew
+            undo = -1
+            keep = 1
+            open
+            undo = 0
+            count 0 = 0
+            undo = -1
+            """);
+        e.edge("51: all is as it was kept: what was CLOSED, from DONE", Edge.OPENED, """
+            take 0 7
+            excess 2 8
+            sell 0 -1 9 1
+            close
+            layer 0 5 100
+            book "110x20;120x30"
+            keep
+            done
+            undo = 0
+            count 0 = 2
+            of 0 0 = 407
+            of 0 1 = 9309
+            of 0 6 = 7
+            of 0 7 = 84
+            of 0 10 = 0
+            of 2 8 = 8
+            of 2 9 = 8
+            count 4 = 9
+            count 5 = 157
+            count 8 = 149
+            count 9 = 0
+            count 10 = 0
+            count 11 = 0
+            count 12 = 0
+            count 15 = 0
+            taken 0 2 = 0
+            bid 0 2 = 0
+            bid 1 2 = 0
+            done = 50
+            count 9 = 110
+            """);
+        e.edge("51: all is as it was kept: what was DONE", Edge.CLOSED, """
+            layer 0 5 100
+            book "110x20;120x30"
+            done = 50
+            keep
+            give 0 1 100 0
+            undo = 0
+            count 0 = 3
+            of 0 0 = 400
+            of 0 7 = 100
+            of 0 10 = 289
+            count 5 = 173
+            count 8 = 173
+            count 9 = 110
+            count 10 = 50
+            count 11 = 500
+            count 12 = 5
+            count 13 = 118
+            taken 0 2 = 5
+            bid 0 2 = 20
+            bid 1 2 = 30
+            """);
+        e.edge("51: all is as it was kept: what was taken up and GIVEN, when DONE", Edge.OPENED, """
+            take 0 7
+            excess 2 8
+            close
+            done
+            keep
+            give 0 1 100 0
+            undo = 0
+            of 0 6 = 7
+            of 0 7 = 93
+            of 2 8 = 8
+            of 2 9 = 8
+            count 6 = 8
+            count 7 = 8
             """);
         e.edge("51: planFor leaves what is kept", Edge.OPENED, """
             keep

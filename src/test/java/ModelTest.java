@@ -93,7 +93,7 @@ public final class ModelTest {
 
     private boolean feedAndRead() throws Exception {
         boolean isBook = random.nextInt(3) == 0;
-        String text = isBook ? bookText() : planText();
+        String text = isBook ? bookText() : random.nextInt(6) == 0 ? fullPlanText() : planText();
         if (text.length() > 160) {
             text = text.substring(0, 160);
         }
@@ -161,6 +161,20 @@ public final class ModelTest {
             }
         }
         return disturbed(text.append(blanks()), " ;takelxcspirfomby0123456789\u00ff\u0000");
+    }
+
+    /** Some 80 bytes: as many short orders as there is room for, and what is behind them. */
+    private String fullPlanText() {
+        StringBuilder text = new StringBuilder();
+        while (text.length() < 76) {
+            text.append(random.nextInt(8) == 0 ? "take" + random.nextInt(100) : "lapse");
+            text.append(random.nextInt(20) == 0 ? " ;" : ";");
+        }
+        for (int i = random.nextInt(5); i > 0; i--) {
+            text.append("  ;l5".charAt(random.nextInt(5)));
+        }
+        text.setLength(Math.min(text.length(), random.nextInt(8) == 0 ? 81 : 80));
+        return random.nextInt(4) == 0 ? disturbed(text, " ;lapsetk05") : text.toString();
     }
 
     private String bookText() {
