@@ -30,13 +30,20 @@ public final class NilPaid {
     private static final int MOST_FEE = 1000;
     private static final int MOST_MONEY = 2000000000;
     private static final int MILLION = 1000000;
+    private static final int MOST_DRAW = 16000;
+    private static final int FED_BYTES = 20;
     private static final int PLAN_BYTES = 80;
     private static final int BOOK_BYTES = 160;
 
     /** What of() tells of a holder, by number. */
     private static final int SHARES = 0;
+    private static final int CASH = 1;
+    private static final int RIGHTS = 2;
+    private static final int TAKE = 3;
+    private static final int EXCESS = 4;
     private static final int HELD = 5;
     private static final int TAKEN_UP = 6;
+    private static final int LAPSED = 7;
     private static final int ASKED = 8;
     private static final int GIVEN = 9;
     private static final int PREMIUM = 10;
@@ -66,7 +73,7 @@ public final class NilPaid {
     // ---- told
 
     public int feed(int a, int b, int c, int d, int e) {
-        if (!tape.hasRoom(20)) {
+        if (!tape.hasRoom(FED_BYTES)) {
             return NONE;
         }
         tape.put(a);
@@ -117,7 +124,7 @@ public final class NilPaid {
     }
 
     public int drawn(int seed, int most) {
-        if (!within(most, 1, 16000)) {
+        if (!within(most, 1, MOST_DRAW)) {
             return NONE;
         }
         if (state.stage != BEFORE) {
@@ -128,7 +135,7 @@ public final class NilPaid {
             x = nextDraw(x);
             state.holders[h].shares = x / 4 % most;
             x = nextDraw(x);
-            state.holders[h].cash = x / 4 % 16000 * 1000;
+            state.holders[h].cash = x / 4 % MOST_DRAW * 1000;
         }
         return (int) state.total(SHARES);
     }
@@ -1077,19 +1084,19 @@ public final class NilPaid {
             switch (what) {
                 case SHARES:
                     return shares;
-                case 1:
+                case CASH:
                     return cash;
-                case 2:
+                case RIGHTS:
                     return rights;
-                case 3:
+                case TAKE:
                     return take;
-                case 4:
+                case EXCESS:
                     return excess;
                 case HELD:
                     return held;
                 case TAKEN_UP:
                     return takenUp;
-                case 7:
+                case LAPSED:
                     return lapsed;
                 case ASKED:
                     return asked;
